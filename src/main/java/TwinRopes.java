@@ -134,7 +134,7 @@ public final class TwinRopes {
     public int lets(int person, int other) throws IndexOutOfBoundsException, IllegalArgumentException {
         needTwo(person, other);
         two.see(town, person, other);
-        return two.toldTo(law, false);
+        return law.amountFor(Law.TELL, two, false);
     }
 
     public int both(int person, int other) throws IndexOutOfBoundsException, IllegalArgumentException {
@@ -556,21 +556,28 @@ public final class TwinRopes {
         }
     }
 
-    /** A text of LINES on the TAPE, gone through thing by thing: words, numbers and single signs. */
+    /** A text of LINES on the TAPE, split into its things: words, numbers and single signs. */
     private abstract static class Text {
         private static final int END = 0;
         private static final int WORD = 1;
         private static final int NUMBER = 2;
         private static final int SIGN = 3;
+        /** A word is kept as one number of 5 bits a letter; one of more letters is none of any text. */
+        private static final int MOST_LETTERS = 6;
+        private static final int LETTER_BITS = 5;
+        private static final int NO_WORD = 0;
         private static final int MOST_DIGITS = 3;
-        /** Stands for a number of too many digits: out of all bounds. */
-        private static final int TOO_LONG = 1000;
+        private static final int NO_NUMBER = 1000;
+
+        /** As many things as bytes, and the end, which is never taken. */
+        private static final int LENGTH = Tape.MOST + 1;
 
         private final Tape tape;
-        private int kind;
-        private int begin;
-        private int behind;
-        private int number;
+        private final int[] kinds = new int[LENGTH];
+        private final int[] values = new int[LENGTH];
+        private final int[] begins = new int[LENGTH];
+        private int things;
+        private int next;
         private int taken;
 
         Text(Tape tape) {
@@ -582,101 +589,124 @@ public final class TwinRopes {
 
         /** The first wrong byte: the begin of what comes next, or the text's length, if more must come. */
         int firstWrong(int mostLines) {
-            behind = 0;
-            step();
-            if (kind == END) {
+            split();
+            if (isAtEnd()) {
                 return NONE;
             }
             for (int line = 0; line < mostLines; line++) {
                 if (!takeLine()) {
-                    return begin;
+                    return place();
                 }
-                if (kind == END) {
+                if (isAtEnd()) {
                     return NONE;
                 }
                 if (!takeSign(';')) {
-                    return begin;
+                    return place();
                 }
             }
-            return begin;
+            return place();
+        }
+
+        // ---- taking things
+
+        private boolean isAtEnd() {
+            return next >= LENGTH || kinds[next] == END;
+        }
+
+        private int place() {
+            return next < LENGTH ? begins[next] : NONE;
+        }
+
+        boolean isNumber(int n) {
+            return next < LENGTH && kinds[next] == NUMBER && values[next] == n;
         }
 
         int lastTaken() {
             return taken;
         }
 
-        boolean isWord(String word) {
-            if (kind != WORD || behind - begin != word.length()) {
-                return false;
-            }
-            for (int i = 0; i < word.length(); i++) {
-                if (tape.at(begin + i) != word.charAt(i)) {
-                    return false;
-                }
-            }
-            return true;
-        }
-
-        boolean isNumber(int n) {
-            return kind == NUMBER && number == n;
-        }
-
-        boolean takeWord(String word) {
-            if (!isWord(word)) {
-                return false;
-            }
-            step();
-            return true;
-        }
-
         boolean takeNumber(int least, int greatest) {
-            if (kind != NUMBER || number < least || number > greatest) {
+            if (next >= LENGTH || kinds[next] != NUMBER || values[next] < least || values[next] > greatest) {
                 return false;
             }
-            taken = number;
-            step();
+            taken = values[next];
+            next++;
             return true;
         }
 
         boolean takeSign(char sign) {
-            if (kind != SIGN || tape.at(begin) != sign) {
+            if (next >= LENGTH || kinds[next] != SIGN || values[next] != sign) {
                 return false;
             }
-            step();
+            next++;
             return true;
         }
 
-        private void step() {
-            begin = behind;
-            while (begin < tape.size() && tape.at(begin) == ' ') {
-                begin++;
+        boolean takeWord(String word) {
+            int value = 0;
+            for (int i = 0; i < word.length(); i++) {
+                value = value << LETTER_BITS | word.charAt(i) - 'a' + 1;
             }
-            behind = begin;
-            if (begin >= tape.size()) {
-                kind = END;
-            } else if (isLetter(tape.at(begin))) {
-                kind = WORD;
-                passWord();
-            } else if (isDigit(tape.at(begin))) {
-                kind = NUMBER;
-                passNumber();
-            } else {
-                kind = SIGN;
-                behind++;
+            if (next >= LENGTH || kinds[next] != WORD || values[next] != value) {
+                return false;
             }
+            next++;
+            return true;
         }
 
-        private void passWord() {
-            while (behind < tape.size() && isLetter(tape.at(behind))) {
-                behind++;
+        // ---- splitting
+
+        private void split() {
+            things = 0;
+            next = 0;
+            int at = 0;
+            // each step passes one byte at least
+            for (int i = 0; i < Tape.MOST && at < tape.size(); i++) {
+                at = tape.at(at) == ' ' ? at + 1 : addThing(at);
             }
+            add(END, 0, tape.size());
         }
 
-        private void passNumber() {
-            number = 0;
-            while (behind < tape.size() && isDigit(tape.at(behind))) {
-                number = behind - begin < MOST_DIGITS ? 10 * number + tape.at(behind) - '0' : TOO_LONG;
-                behind++;
+        private int addThing(int begin) {
+            int sign = tape.at(begin);
+            if (isLetter(sign)) {
+                return addWord(begin);
+            }
+            if (isDigit(sign)) {
+                return addNumber(begin);
+            }
+            add(SIGN, sign, begin);
+            return begin + 1;
+        }
+
+        private int addWord(int begin) {
+            int value = 0;
+            int at = begin;
+            while (at < tape.size() && isLetter(tape.at(at))) {
+                value = at - begin < MOST_LETTERS ? value << LETTER_BITS | tape.at(at) - 'a' + 1 : NO_WORD;
+                at++;
+            }
+            add(WORD, value, begin);
+            return at;
+        }
+
+        private int addNumber(int begin) {
+            int value = 0;
+            int at = begin;
+            while (at < tape.size() && isDigit(tape.at(at))) {
+                value = at - begin < MOST_DIGITS ? 10 * value + tape.at(at) - '0' : NO_NUMBER;
+                at++;
+            }
+            add(NUMBER, value, begin);
+            return at;
+        }
+
+        private void add(int kind, int value, int begin) {
+            if (things < LENGTH) {
+                kinds[things] = kind;
+                values[things] = value;
+                begins[things] = begin;
+                things++;
             }
         }
 
@@ -704,7 +734,7 @@ public final class TwinRopes {
         }
 
         boolean takeLine() {
-            if (isWord("person")) {
+            if (town.people < MOST_PEOPLE && takeWord("person")) {
                 return takePersonLine();
             }
             if (takeWord("guess")) {
@@ -723,8 +753,7 @@ public final class TwinRopes {
         }
 
         private boolean takePersonLine() {
-            if (town.people >= MOST_PEOPLE || !takeWord("person") || !takeWord("at")
-                    || !takeNumber(0, HAUNTS - 1)) {
+            if (!takeWord("at") || !takeNumber(0, HAUNTS - 1)) {
                 return false;
             }
             int haunt = lastTaken();
@@ -857,20 +886,21 @@ public final class TwinRopes {
         }
 
         private boolean takeCondition(int depth) {
-            boolean right = takeAll(depth);
-            for (int i = 0; right && i < Tape.MOST && takeWord("or"); i++) {
-                right = takeAll(depth);
-                add(Law.OR);
-            }
-            return right;
-        }
-
-        private boolean takeAll(int depth) {
             boolean right = takeAtom(depth);
-            for (int i = 0; right && i < Tape.MOST && takeWord("and"); i++) {
-                right = takeAtom(depth);
-                add(Law.AND);
+            boolean orWaits = false;
+            for (int i = 0; right && i < Tape.MOST; i++) {
+                if (takeWord("and")) {
+                    right = takeAtom(depth);
+                    addStep(Law.AND);
+                } else if (takeWord("or")) {
+                    addStepIf(orWaits, Law.OR);
+                    orWaits = true;
+                    right = takeAtom(depth);
+                } else {
+                    break;
+                }
             }
+            addStepIf(orWaits, Law.OR);
             return right;
         }
 
@@ -879,44 +909,33 @@ public final class TwinRopes {
             while (within < MOST_DEEP && takeWord("not")) {
                 within++;
             }
-            boolean right = takeBareAtom(within);
+            boolean right;
+            if (within < MOST_DEEP && takeSign('(')) {
+                right = takeCondition(within + 1) && takeSign(')');
+            } else if (takeFlag()) {
+                right = true;
+            } else {
+                right = takeSum();
+                boolean less = right && takeSign('<');
+                right = right && (less || takeSign('>')) && takeSum();
+                addStep(less ? Law.LESS : Law.MORE);
+            }
             for (int i = depth; i < within; i++) {
-                add(Law.NOT);
+                addStep(Law.NOT);
             }
             return right;
         }
 
-        private boolean takeBareAtom(int depth) {
-            if (depth < MOST_DEEP && takeSign('(')) {
-                return takeCondition(depth + 1) && takeSign(')');
-            }
-            int flag = takeFlag();
-            if (flag != NONE) {
-                add(flag);
-                return true;
-            }
-            return takeComparison();
-        }
-
-        private int takeFlag() {
+        private boolean takeFlag() {
             if (takeWord("sworn")) {
-                return Two.SWORN;
-            }
-            if (takeWord("near")) {
-                return Two.NEAR;
-            }
-            return takeWord("rang") ? Two.RANG : NONE;
-        }
-
-        private boolean takeComparison() {
-            if (!takeSum()) {
+                addStep(Two.SWORN);
+            } else if (takeWord("near")) {
+                addStep(Two.NEAR);
+            } else if (takeWord("rang")) {
+                addStep(Two.RANG);
+            } else {
                 return false;
             }
-            boolean less = takeSign('<');
-            if (!less && !takeSign('>') || !takeSum()) {
-                return false;
-            }
-            add(less ? Law.LESS : Law.MORE);
             return true;
         }
 
@@ -924,47 +943,41 @@ public final class TwinRopes {
             boolean right = takePart();
             for (int i = 0; right && i < Tape.MOST && takeSign('+'); i++) {
                 right = takePart();
-                add(Law.PLUS);
+                addStep(Law.PLUS);
             }
             return right;
         }
 
         private boolean takePart() {
             if (takeNumber(0, MOST_NUMBER)) {
-                add(Law.NUMBER + lastTaken());
-                return true;
-            }
-            int part = takePartWord();
-            if (part == NONE) {
+                addStep(Law.NUMBER + lastTaken());
+            } else if (takeWord("one")) {
+                addStep(Two.ONE);
+            } else if (takeWord("other")) {
+                addStep(Two.OTHER);
+            } else if (takeWord("guess")) {
+                addStep(Two.GUESS);
+            } else if (takeWord("back")) {
+                addStep(Two.BACK);
+            } else if (takeWord("rung")) {
+                addStep(Two.RUNG);
+            } else if (takeWord("hour")) {
+                addStep(Two.HOUR);
+            } else if (takeWord("day")) {
+                addStep(Two.DAY);
+            } else {
                 return false;
             }
-            add(part);
             return true;
         }
 
-        private int takePartWord() {
-            if (takeWord("one")) {
-                return Two.ONE;
+        private void addStepIf(boolean is, int step) {
+            if (is) {
+                addStep(step);
             }
-            if (takeWord("other")) {
-                return Two.OTHER;
-            }
-            if (takeWord("guess")) {
-                return Two.GUESS;
-            }
-            if (takeWord("back")) {
-                return Two.BACK;
-            }
-            if (takeWord("rung")) {
-                return Two.RUNG;
-            }
-            if (takeWord("hour")) {
-                return Two.HOUR;
-            }
-            return takeWord("day") ? Two.DAY : NONE;
         }
 
-        private void add(int step) {
+        private void addStep(int step) {
             if (length < steps.length) {
                 steps[length] = step;
                 length++;
@@ -1118,11 +1131,6 @@ public final class TwinRopes {
             return law.amountFor(Law.GUESS, this, turned);
         }
 
-        int toldTo(Law law, boolean turned) {
-            values[RANG] = 0;
-            return law.amountFor(Law.TELL, this, turned);
-        }
-
         /** Both pull: (a) of an HOUR; its TONE. */
         int pullOnce(Law law) {
             int tone = toneNow();
@@ -1135,8 +1143,8 @@ public final class TwinRopes {
         }
 
         void meetOnce(Law law) {
-            int told = toldTo(law, false);
-            addGuesses(told, toldTo(law, true));
+            int told = law.amountFor(Law.TELL, this, false);
+            addGuesses(told, law.amountFor(Law.TELL, this, true));
         }
 
         /** The same two, an HOUR later. */
