@@ -843,7 +843,7 @@ public final class TwinRopes {
         private static final int MOST_NUMBER = 999;
         private static final int MOST_DEEP = 6;
 
-        private final int[] kinds = new int[MOST_LINES];
+        private final int[] lineKinds = new int[MOST_LINES];
         private final int[] amounts = new int[MOST_LINES];
         private final int[] ends = new int[MOST_LINES];
         /** Conditions, each step behind what it works on; no thing on the TAPE makes two steps. */
@@ -865,7 +865,7 @@ public final class TwinRopes {
             if (kind == NONE || lines >= MOST_LINES || !takeNumber(0, MOST_AMOUNT)) {
                 return false;
             }
-            kinds[lines] = kind;
+            lineKinds[lines] = kind;
             amounts[lines] = lastTaken();
             if (takeWord("if") && !takeCondition(0)) {
                 return false;
@@ -1023,7 +1023,7 @@ public final class TwinRopes {
 
         Law(LawText text) {
             lines = text.lines;
-            kinds = Arrays.copyOf(text.kinds, LawText.MOST_LINES);
+            kinds = Arrays.copyOf(text.lineKinds, LawText.MOST_LINES);
             amounts = Arrays.copyOf(text.amounts, LawText.MOST_LINES);
             ends = Arrays.copyOf(text.ends, LawText.MOST_LINES);
             steps = Arrays.copyOf(text.steps, Math.max(text.length, 0));

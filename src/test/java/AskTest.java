@@ -279,6 +279,11 @@ public final class AskTest extends PromiseCase {
                 1, 0, 1, 0, 1, 0, 1, 0, 1, 0, 1, 0, 0, 1), 0b011);
         Checks.due("the tape is used up", x.end(1), false);
         unchanged(x, before);
+        x.guess(0, 2, 9);
+        Checks.due("none told, one of them dumb", pulled(x, false), 3);
+        Checks.due("rings in 0, one of them dumb", pulled(x, true, 0, 1), 0b010);
+        Checks.due("not in 0", pulled(x, true, 0, 0), 0b101);
+        x.guess(0, 2, 0);
         // they pull on, though it rang not: what is hushed then lets it ring again
         Checks.tellLaw(x, "guess 3 if rang;hush 4 if not rang");
         // 0 and 1: 4 0, 7 3, 3 0, 6 3, 2 0; 0 and 2: 0 2, 3 5, 0 1, 3 4, 6 7; 1 and 2: 0 0, 3 3, 6 6, 2 2, 5 5
@@ -386,6 +391,9 @@ public final class AskTest extends PromiseCase {
         Checks.due("the least of several nosy", x.nosy(), 0);
         x.guess(2, 3, 6);
         Checks.due("11 of 3", x.most(), 3);
+        x.guess(3, 0, 9);
+        x.guess(2, 0, 9);
+        Checks.due("18 of 0", x.most(), 0);
         for (int person = 0; person < 4; person++) {
             x.forget(person);
         }
@@ -460,11 +468,21 @@ public final class AskTest extends PromiseCase {
         x.guess(1, 0, 5);
         Checks.due("9 - 10 is less than 1", x.rests(0, 1), 8);
         Checks.tellTown(x, "doubt 2;person at 1 pay 10;person at 1");
-        Checks.due("1 is 1", x.rests(0, 3) * 100 + x.rests(0, 2), 909);
         x.guess(4, 5, 5);
         Checks.due("0 is less than 1", x.rests(4, 5), 8);
         x.guess(4, 5, 4);
         Checks.due("2 is not, nor 0 than 0", x.rests(4, 5), 9);
+        Checks.due("the other way", x.rests(5, 4), 9);
+        TwinRopes y = Checks.town("person at 1 pay 9;person at 1 pay 10;person at 1;doubt 4");
+        y.guess(0, 2, 4);
+        Checks.due("9 - 8 is no less than 1", y.rests(0, 2), 9);
+        Checks.due("the other way", y.rests(2, 0), 9);
+        y.guess(1, 2, 5);
+        Checks.due("10 - 10 is less than 1", y.rests(1, 2), 8);
+        Checks.tellTown(y, "doubt 5");
+        Checks.due("5 is DOUBT", y.rests(2, 1), 8);
+        Checks.tellTown(y, "doubt 6");
+        Checks.due("10 - 10 is no less than 0", y.rests(1, 2), 9);
         badTwo(x, "rests", x::rests);
     }
 
@@ -527,6 +545,10 @@ public final class AskTest extends PromiseCase {
         Checks.due("the seed stays", x.seed(1), 77);
         spanOfSeeds(17, 100, 0, 1);
         // the first and second draw of each SEED: 38 58, 8 17, 47 7, 17 66, 55 57, 26 15
+        TwinRopes six = Checks.town("person at 1 roams 100;person at 2;person at 2;person at 2;person at 2;person at 1 roams 28");
+        Checks.tellLaw(six, "tell 9");
+        // the sixth draw of each SEED: 27, 95, 96, 96, 64, 65
+        Checks.due("SEED 1 is one of six", six.span(12, true), 1);
         spanOfSeeds(40, 17, 0, 1);
         spanOfSeeds(39, 17, 0, 1);
         spanOfSeeds(26, 17, 0, 0);

@@ -171,6 +171,16 @@ public final class TextTest extends PromiseCase {
             Checks.wrongTown(x, texts[i], places[i]);
             Checks.due("the tape is used up", x.end(1), false);
         }
+        Checks.wrongTown(x, "person at 1 pay", 15);
+        Checks.wrongTown(x, "guess", 5);
+        Checks.wrongTown(x, "doubt", 5);
+        Checks.wrongTown(x, "dayz 1", 0);
+        Checks.wrongTown(x, "dperson at 1", 0);
+        Checks.wrongTown(x, "persond at 1", 0);
+        // numbers that are a sign's, or another kind of thing's, number are numbers yet
+        Checks.wrongTown(x, "day 1 59 day 2", 6);
+        Checks.wrongTown(x, "person 52 1", 7);
+        Checks.wrongTown(x, "day a", 4);
         Checks.due("nothing stays of wrong texts", Checks.seen(x), before);
         Checks.wrongTown(x, "day 1;day 1;day 1;day 1;day 1;day 1;day 1;day 1;day 1;day 1;day 1;day 1;day 1;day 1; day 1", 85);
         Checks.wrongTown(x, "day 1;day 1;day 1;day 1;day 1;day 1;day 1;day 1;day 1;day 1;day 1;day 1;day 1;day 1; ", 85);
@@ -253,6 +263,12 @@ public final class TextTest extends PromiseCase {
         holds(x, "not not not not not not 0 < 1", 1, 1);
         // side by side they are not within one another
         holds(x, "not not not (not not near) or not not not (not not near) or (((near)))", 1, 1);
+        Checks.due("400 bytes", Checks.tellLaw(x, "tell1if0<" + "1+".repeat(195) + "1"), 1);
+        Checks.due("they hold", x.lets(0, 1), 1);
+        Checks.due("400 bytes more", Checks.tellLaw(x, "tell1if" + "1+".repeat(194) + "1<195+0"), 1);
+        Checks.due("195 is not below 195", x.lets(0, 1), 0);
+        Checks.due("and again", Checks.tellLaw(x, "tell1if" + "1+".repeat(194) + "1<196+0"), 1);
+        Checks.due("195 is below 196", x.lets(0, 1), 1);
         holds(x, "near or(near or(near or(near or(near or(near or 0 < 1 and 0 + 1 + 1 + 1 < 1 + 1 + 1 + 1)))))", 1, 1);
     }
 
@@ -303,6 +319,12 @@ public final class TextTest extends PromiseCase {
             Checks.wrongLaw(x, texts[i], places[i]);
             Checks.due("the tape is used up", x.end(1), false);
         }
+        Checks.wrongLaw(x, "5", 0);
+        Checks.wrongLaw(x, "guess 1 if one 60 2", 15);
+        Checks.wrongLaw(x, "guess 1 if 40 near 41", 14);
+        Checks.wrongLaw(x, "guess 1 2", 8);
+        Checks.wrongLaw(x, "tell1if0<" + "1+".repeat(195) + "+", 399);
+        Checks.wrongLaw(x, "tell1if0<" + "1+".repeat(195) + " ", 400);
         Checks.wrongLaw(x, "tell 5;tell 5;tell 5;tell 5;tell 5;tell 5;tell 5;tell 5;tell 5;tell 5;tell 5;tell 5;  tax", 86);
         Checks.due("nothing stays of wrong laws", Checks.seen(x), before);
         Checks.due("a wrong law forgets no act", x.count(11), 1);

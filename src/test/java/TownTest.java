@@ -24,6 +24,7 @@ public final class TownTest extends PromiseCase {
         promise22Bounds();
         promise22Meetings();
         promise22Days();
+        promise22Sworn();
         Checks.finish("TownTest");
     }
 
@@ -51,7 +52,11 @@ public final class TownTest extends PromiseCase {
         TwinRopes x = Checks.town("person at 1;person at 2;person at 3;rope 0 0 0;rope 1 0 1;rope 0 1 1;rope 1 1 2;"
                 + "rope 0 2 1;rope 1 2 0;rope 0 3 2");
         Checks.tellLaw(x, "guess 0");
-        x.hours(12);
+        Checks.due("without a row", x.person(0, 7), 0);
+        x.hours(1);
+        Checks.due("one of one", x.person(0, 7), 100);
+        Checks.due("none of one", x.person(2, 7), 0);
+        x.hours(11);
         Checks.due("rows", x.count(10), 4);
         Checks.due("two of three", x.person(0, 7), 66);
         Checks.due("three of three", x.person(1, 7), 100);
@@ -292,6 +297,21 @@ public final class TownTest extends PromiseCase {
         TwinRopes z = Checks.town("person at 4 roams 100;person at 5 roams 100");
         z.hours(120);
         Checks.due("out, but not near", z.count(9), 0);
+    }
+
+    private static void promise22Sworn() {
+        TwinRopes x = Checks.town("person at 4 roams 100;person at 4 roams 100 sworn;rope 1 0 0;rope 0 0 1;rope 0 1 0;rope 1 1 1");
+        Checks.tellLaw(x, "guess 1;guess 2 if sworn;tell 0;tell 3 if sworn;hush 1 if one > 0 and back > 8");
+        x.hours(1);
+        Checks.due("the sworn one in loft 0", x.guessed(1, 0), 3);
+        Checks.due("the other one", x.guessed(0, 1), 1);
+        x.hours(1);
+        Checks.due("the sworn one in loft 1", x.guessed(1, 0), 6);
+        Checks.due("the other one", x.guessed(0, 1), 2);
+        x.forget(0);
+        x.hours(10);
+        Checks.due("the sworn one is told", x.guessed(1, 0), 3);
+        Checks.due("the other one is not", x.guessed(0, 1), 0);
     }
 
     private static void promise22Days() {
