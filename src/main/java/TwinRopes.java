@@ -1010,6 +1010,7 @@ public final class TwinRopes {
         private final int[] amounts;
         private final int[] ends;
         private final int[] steps;
+        /** Room for what is worked out, of no meaning between two calls. */
         private final int[] waiting = new int[MOST_WAITING];
 
         /** No text at all, which is another thing than a text without a LINE. */
@@ -1573,6 +1574,9 @@ public final class TwinRopes {
     /** THE LOG: a ring of rows, each packed into one number, as every act remembered keeps a copy. */
     private static final class Log {
         static final int DAY = 0;
+        static final int HOUR = 1;
+        static final int FIRST = 2;
+        static final int SECOND = 3;
         static final int TONE = 4;
         private static final int MOST = 60;
 
@@ -1599,14 +1603,13 @@ public final class TwinRopes {
             return ago >= 0 && ago < size;
         }
 
-        /** Of a row so many ago: DAY, HOUR, who was in LOFT 0, in LOFT 1, the TONE. */
         int partOf(int ago, int what) {
             int row = rowAt(ago);
             switch (what) {
-                case 0: return row >> 15;
-                case 1: return row >> 11 & 15;
-                case 2: return (row >> 7 & 15) - 1;
-                case 3: return (row >> 3 & 15) - 1;
+                case DAY: return row >> 15;
+                case HOUR: return row >> 11 & 15;
+                case FIRST: return (row >> 7 & 15) - 1;
+                case SECOND: return (row >> 3 & 15) - 1;
                 default: return row & 7;
             }
         }
@@ -1617,7 +1620,7 @@ public final class TwinRopes {
         }
 
         private boolean isOf(int ago, int person) {
-            return partOf(ago, 2) == person || partOf(ago, 3) == person;
+            return partOf(ago, FIRST) == person || partOf(ago, SECOND) == person;
         }
 
         int rowsOf(int person) {

@@ -263,6 +263,9 @@ public final class TextTest extends PromiseCase {
         holds(x, "not not not not not not 0 < 1", 1, 1);
         // side by side they are not within one another
         holds(x, "not not not (not not near) or not not not (not not near) or (((near)))", 1, 1);
+        // as much as can wait at once: an or and an and six deep, and a sum in a comparison behind them
+        holds(x, "1<0 or 0<1 and (".repeat(6) + "1<0 or 0<1 and 0+0+1<0+1+1" + ")".repeat(6), 1, 1);
+        holds(x, "1<0 or 0<1 and (".repeat(6) + "1<0 or 0<1 and 0+0+1<0+0+1" + ")".repeat(6), 0, 0);
         Checks.due("400 bytes", Checks.tellLaw(x, "tell1if0<" + "1+".repeat(195) + "1"), 1);
         Checks.due("they hold", x.lets(0, 1), 1);
         Checks.due("400 bytes more", Checks.tellLaw(x, "tell1if" + "1+".repeat(194) + "1<195+0"), 1);
