@@ -6,10 +6,6 @@ public final class AskTest extends PromiseCase {
             + "person at 1 roams 100 pay 5;guess 0 1 4;guess 1 2 9;guess 2 3 5;rope 0 0 0;rope 1 0 1;rope 0 1 2;rope 1 2 3;"
             + "rope 0 3 1;rope 1 3 2";
     private static final String THREE = "person at 1;person at 2;person at 3";
-    private static final String ALL_HOURS_FIRST = "rope 0 0 0;rope 0 1 0;rope 0 2 0;rope 0 3 0;rope 0 4 0;rope 0 5 0;rope 0 6 0;"
-            + "rope 0 7 0;rope 0 8 0;rope 0 9 0;rope 0 10 0;rope 0 11 0";
-    private static final String ALL_HOURS_SECOND = "rope 1 0 1;rope 1 1 1;rope 1 2 1;rope 1 3 1;rope 1 4 1;rope 1 5 1;rope 1 6 1;"
-            + "rope 1 7 1;rope 1 8 1;rope 1 9 1;rope 1 10 1;rope 1 11 1";
 
     public static void main(String[] args) {
         promise23();

@@ -85,6 +85,15 @@ final class Checks {
         due("fault of '" + text + "'", x.fault(), place);
     }
 
+    /** A wrong text, in which ^ stands ahead of the first wrong byte. */
+    static void wrongTown(TwinRopes x, String marked) {
+        wrongTown(x, marked.replace("^", ""), marked.indexOf('^'));
+    }
+
+    static void wrongLaw(TwinRopes x, String marked) {
+        wrongLaw(x, marked.replace("^", ""), marked.indexOf('^'));
+    }
+
     /** All that can be seen of an object without changing it, but fault(). */
     static String seen(TwinRopes x) {
         return seenButActs(x) + " " + x.count(11);

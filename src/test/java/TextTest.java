@@ -2,9 +2,6 @@ import java.util.NoSuchElementException;
 
 /** Promises 1 to 6: a new object, the TAPE, the texts of THE TOWN and of THE LAW, fault(). */
 public final class TextTest extends PromiseCase {
-    private static final String EIGHT = "person at 0;person at 1;person at 2;person at 3;person at 4;person at 5;"
-            + "person at 6;person at 7";
-
     public static void main(String[] args) {
         promise1();
         promise2();
@@ -201,13 +198,6 @@ public final class TextTest extends PromiseCase {
         Checks.due("its tape is used up", x.end(1), false);
         Checks.due("acts are remembered yet", x.count(11), 1);
         Checks.due("a law is no text of the town", Checks.tellLaw(x, ""), 0);
-    }
-
-    /** A law of one LINE that adds 1, if the condition holds, for the ordered twos 0 1 and 1 0. */
-    private static void holds(TwinRopes x, String condition, int forFirst, int forSecond) {
-        Checks.due("law of " + condition, Checks.tellLaw(x, "guess 1 if " + condition + ";tell 1 if " + condition), 1 + 1);
-        Checks.due("sounds(0, 1) if " + condition, x.sounds(0, 1), forFirst);
-        Checks.due("sounds(1, 0) if " + condition, x.sounds(1, 0), forSecond);
     }
 
     private static void promise5Parts() {

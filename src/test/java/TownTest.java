@@ -132,12 +132,6 @@ public final class TownTest extends PromiseCase {
         badLoft(x, "plan", loft -> x.plan(loft, 0));
     }
 
-    private static void badLoft(TwinRopes x, String name, One call) {
-        for (int loft : new int[] {-1, 2, Integer.MIN_VALUE, Integer.MAX_VALUE}) {
-            Checks.refusedWhole(x, name + " of loft " + loft, IndexOutOfBoundsException.class, () -> call.of(loft));
-        }
-    }
-
     private static void promise15() {
         TwinRopes x = Checks.town(FOUR);
         Checks.due("rope at nobody's", x.rope(1, 1, 3), -1);
