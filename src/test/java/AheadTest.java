@@ -13,6 +13,7 @@ public final class AheadTest extends PromiseCase {
         trialDraws();
         span();
         spanOfSixSeeds();
+        spanOfEachSeed();
         nothingStays();
         Checks.finish("AheadTest");
     }
@@ -187,6 +188,30 @@ public final class AheadTest extends PromiseCase {
                 Checks.due("SEED stays", x.seed(1), first);
             }
         }
+    }
+
+    private static void spanOfEachSeed() {
+        // by the draws of one SEED alone these two are OUT: of 8 PEOPLE the first and the second number, and what they roam
+        spanOf(1, 0, 39, 2, 14);
+        spanOf(1, 0, 9, 1, 18);
+        spanOf(1, 0, 48, 1, 8);
+        spanOf(1, 0, 18, 3, 12);
+        spanOf(1, 0, 56, 6, 5);
+        spanOf(1, 0, 27, 1, 16);
+        // by SEED 0 and 7 alone, of which SPAN is not
+        spanOf(0, 0, 1, 1, 69);
+        spanOf(0, 0, 65, 1, 7);
+    }
+
+    private static void spanOf(int want, int first, int roams, int second, int others) {
+        StringBuilder text = new StringBuilder();
+        for (int person = 0; person < 8; person++) {
+            text.append(person > 0 ? ";" : "").append("person at 1 roams ").append(person == first ? roams : person == second ? others : 0);
+        }
+        TwinRopes x = Checks.town(text.toString());
+        Checks.tellLaw(x, "tell 9");
+        Checks.due("most of " + roams + " and " + others, x.span(12, true), want);
+        Checks.due("least of " + roams + " and " + others, x.span(12, false), 0);
     }
 
     private static void nothingStays() {

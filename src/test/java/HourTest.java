@@ -11,6 +11,7 @@ public final class HourTest extends PromiseCase {
         tones();
         tonesOfThePlan();
         soundsMore();
+        soundsOfTheSwornOne();
         soundsWithinBounds();
         bothAsAheadOfTheHour();
         rungMore();
@@ -98,6 +99,26 @@ public final class HourTest extends PromiseCase {
         Checks.due("cracked, too", x.guessed(6, 7) * 10 + x.guessed(7, 6), 97);
         x.hours(12);
         Checks.due("dumb, too", x.guessed(6, 7) * 10 + x.guessed(7, 6), 99);
+    }
+
+    private static void soundsOfTheSwornOne() {
+        TwinRopes x = Checks.town("person at 0 sworn;person at 0;person at 0 sworn;" + BOTH + ";rope 0 1 1;rope 1 1 0;rope 0 2 1;rope 1 2 2");
+        Checks.tellLaw(x, "guess 1;guess 2 if sworn");
+        x.hours(1);
+        Checks.due("the sworn one in loft 0", x.guessed(0, 1) * 10 + x.guessed(1, 0), 31);
+        x.hours(1);
+        Checks.due("the sworn one in loft 1", x.guessed(0, 1) * 10 + x.guessed(1, 0), 62);
+        x.hours(1);
+        Checks.due("the sworn one of the greater number", x.guessed(2, 1) * 10 + x.guessed(1, 2), 31);
+        TwinRopes y = near(100, 100);
+        Checks.tellLaw(y, "tell 1;tell 2 if sworn");
+        y.swear(1, true);
+        y.hours(12);
+        Checks.due("the sworn one meets", y.guessed(1, 0) * 10 + y.guessed(0, 1), 31);
+        y.swear(1, false);
+        y.swear(0, true);
+        y.hours(12);
+        Checks.due("the other one sworn", y.guessed(1, 0) * 10 + y.guessed(0, 1), 44);
     }
 
     private static void soundsWithinBounds() {

@@ -11,6 +11,7 @@ public final class KeepTest extends PromiseCase {
         feedTheHighestFirst();
         endOfEachLength();
         undone();
+        undoneOfEight();
         undoneOneByOne();
         undoneUpToTwelve();
         undoneButFor();
@@ -153,6 +154,42 @@ public final class KeepTest extends PromiseCase {
             case 10: x.off(0, 11); break;
             default: x.off(1, 11); break;
         }
+    }
+
+    /** Of eight, each of whom has something of each kind. */
+    private static TwinRopes eight() {
+        TwinRopes x = new TwinRopes();
+        for (int person = 0; person < 8; person++) {
+            Checks.tellTown(x, "person at " + person + " roams 9" + person + " pay " + person);
+        }
+        Checks.tellTown(x, "rope 0 0 6;rope 1 0 7;rope 0 1 0;rope 1 1 7;rope 0 10 5;rope 1 10 4;rope 0 11 3;rope 1 11 2;guess 7 6 3;guess 0 7 1");
+        x.hours(17);
+        x.swear(7, true);
+        return x;
+    }
+
+    private static void undoneOfEight() {
+        TwinRopes x = eight();
+        String before = Checks.seenButActs(x);
+        Checks.due("rung", x.rung(6, 7) * 100 + x.rung(7, 0) * 10 + x.rung(4, 5), 221);
+        x.hours(120);
+        Checks.due("rung then", x.rung(6, 7) * 100 + x.rung(7, 0) * 10 + x.rung(4, 5), 245);
+        Checks.due("undone", x.undo(), true);
+        Checks.due("all of eight is as ahead of it", Checks.seenButActs(x), before);
+        for (int person = 0; person < 8; person++) {
+            x.forget(person);
+            x.move(person, 7);
+            x.swear(person, person < 7);
+            x.undo();
+            x.undo();
+            x.undo();
+            Checks.due("all is as ahead of three acts of " + person, Checks.seenButActs(x), before);
+        }
+        x.image();
+        x.hours(120);
+        x.swear(6, true);
+        x.back();
+        Checks.due("all of eight is as it was kept", Checks.seenButActs(x), before);
     }
 
     private static void undoneOneByOne() {

@@ -154,6 +154,12 @@ public final class PersonTest extends PromiseCase {
         x.hours(1);
         Checks.due("its row is gone", x.person(2, 7), 0);
         Checks.due("60 of 60", x.person(1, 7), 100);
+        x.rope(1, 2, 2);
+        x.hours(1);
+        Checks.due("the latest row of 60", x.person(2, 7), 1);
+        Checks.due("the others", x.person(1, 7), 98);
+        x.rope(1, 2, 1);
+        x.hours(60);
         x.guess(0, 1, 5);
         x.hours(59);
         Checks.due("1 of 1", x.person(1, 7), 100);

@@ -114,6 +114,8 @@ public final class SetTest extends PromiseCase {
         cut(Checks.town("person at 0;person at 0;guess 1 0 5"), 0, 0);
         cut(Checks.town("person at 0;person at 0;person at 0"), 1, 2);
         cut(Checks.town("person at 0;person at 0;person at 0;guess 0 1 5"), 0b011, 2);
+        cut(Checks.town("person at 0;person at 0;person at 0;guess 0 2 5"), 0b010, 2);
+        cut(Checks.town("person at 0;person at 0;person at 0;guess 1 2 5"), 0b001, 2);
         cut(Checks.town("person at 0;person at 0;person at 0;guess 0 1 5;guess 0 2 5"), 0b010, 1);
         cut(Checks.town("person at 0;person at 0;person at 0;person at 0"), 0b0011, 4);
     }

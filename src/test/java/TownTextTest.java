@@ -270,7 +270,10 @@ public final class TownTextTest extends PromiseCase {
             Checks.wrongTown(x, text);
         }
         // words of more letters, whose last ones are a right one's
-        Checks.wrongTown(x, "^aperson at 1");
+        for (String text : new String[] {"^aperson at 1", "^dperson at 1", "^persond at 1", "^derson at 1", "^lerson at 1", "^zay 1", "^dayz 1",
+            "^z", "person ^t 1", "person at 1 ^roaams 1", "person at 1 ^way 1", "day 1;^h 1"}) {
+            Checks.wrongTown(x, text);
+        }
         Checks.wrongTown(x, "person at 1 ^xpay 1");
     }
 
