@@ -131,6 +131,7 @@ public final class ChanceTest extends PromiseCase {
                 x.guess(1, 2, guess);
                 Checks.due("as much as one has who stays away", x.rests(0, 2), 0b1001);
                 Checks.due("less than that", x.rests(2, 1), 2 * guess + gain > 0 ? 0b1000 : 0b1001);
+                Checks.due("less than that, the other way", x.rests(1, 2), 2 * guess + gain > 0 ? 0b1000 : 0b1001);
             }
         }
     }

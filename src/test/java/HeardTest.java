@@ -56,6 +56,11 @@ public final class HeardTest extends PromiseCase {
         Checks.due("in any order", pulled(x, 30, 0, 3, 0, 2, 1, 0, 1), 1);
         Checks.due("none is so", pulled(x, 1, 0, 2, 1), 0);
         Checks.due("told twice alike", pulled(x, 1, 1, 1, 1), 2);
+        Checks.due("told twice alike that it rang not", pulled(x, 1, 0, 1, 0), 1);
+        Checks.due("each HOUR that is told counts, the first", pulled(x, 1, 0, 30, 0), 1);
+        Checks.due("and the last", pulled(x, 30, 0, 1, 0), 1);
+        Checks.due("each in which it rang, the first", pulled(x, 3, 1, 0, 1), 1);
+        Checks.due("and the last", pulled(x, 0, 1, 3, 1), 1);
         Checks.due("told both ways", pulled(x, 1, 1, 1, 0), 0);
     }
 

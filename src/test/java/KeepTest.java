@@ -18,6 +18,7 @@ public final class KeepTest extends PromiseCase {
         undoneNone();
         image();
         imageOfAll();
+        imageOfFewer();
         imageButFor();
         imageIsOne();
         backOfNone();
@@ -340,6 +341,31 @@ public final class KeepTest extends PromiseCase {
         Checks.tellLaw(y, "tell 9");
         y.back();
         Checks.due("without a law", y.count(2) * 100 + y.lets(0, 1) * 10 + y.sounds(0, 1), -100 + 21);
+    }
+
+    /** Whom a text behind THE IMAGE told is no PERSON any more, nor is whom a wrong text told. */
+    private static void imageOfFewer() {
+        TwinRopes x = Checks.town("person at 1;person at 1;guess 0 1 5");
+        x.image();
+        Checks.tellTown(x, "person at 1;person at 1;guess 0 1 0;guess 2 3 9;doubt 9");
+        Checks.due("four in two pairs", x.teams(-1), 18);
+        Checks.due("heads by DOUBT 9", x.heads(), 0b0111);
+        x.back();
+        fewer(x);
+        Checks.wrongTown(x, "person at 1;guess 0 2 9;doubt 9;^x");
+        fewer(x);
+    }
+
+    private static void fewer(TwinRopes x) {
+        badPerson(x, "person", person -> x.person(person, 0));
+        badPerson(x, "teams", person -> person == TwinRopes.NONE ? x.person(person, 0) : x.teams(person));
+        badTwo(x, "guessed", x::guessed);
+        Checks.due("two who never ring", x.teams(-1), 0);
+        Checks.due("heads by DOUBT 5", x.heads(), 0b01);
+        Checks.due("crowd", x.crowd(), 0b11);
+        Checks.due("longest", x.longest(), 1);
+        Checks.due("near", x.person(0, 8), 0b10);
+        Checks.due("twins", x.twins(), 1);
     }
 
     private static void imageButFor() {

@@ -149,6 +149,10 @@ public final class SetTest extends PromiseCase {
         Checks.tellTown(x, "doubt 6");
         Checks.due("by DOUBT", x.heads(), 255);
         Checks.tellTown(x, "doubt 1");
+        Checks.due("one of the heads may GUESS another one", Checks.town("person at 0;person at 0;person at 0;person at 0;guess 0 1 5;"
+                + "guess 0 2 5;guess 1 3 5").heads(), 0b0011);
+        Checks.due("and that one it", Checks.town("person at 0;person at 0;person at 0;person at 0;person at 0;person at 0;guess 1 2 9;"
+                + "guess 2 1 9;guess 1 0 5;guess 1 4 5;guess 2 3 5;guess 2 5 5").heads(), 0b000110);
         Checks.due("1 is DOUBT", Checks.town("person at 0;person at 0;doubt 1;guess 1 0 1").heads(), 2);
     }
 
@@ -184,6 +188,9 @@ public final class SetTest extends PromiseCase {
         x.guess(1, 0, 1);
         Checks.due("one step", x.depth(0, 1), 0b10);
         Checks.due("two steps lead back", x.depth(0, 2), 0b11);
+        for (int k = 3; k <= 8; k++) {
+            Checks.due("those of fewer steps, too, in " + k, x.depth(0, k), 0b11);
+        }
         Checks.due("no step", x.depth(0, 0), 0);
         badNumber(x, "depth", 0, 8, k -> x.depth(0, k));
         badPerson(x, "depth", person -> x.depth(person, 0));
