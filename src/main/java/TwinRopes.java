@@ -529,7 +529,7 @@ public final class TwinRopes {
         }
 
         int at(int index) {
-            return index >= 0 && index < length ? bytes[index] : NONE;
+            return index >= 0 && index < length && index < MOST ? bytes[index] : NONE;
         }
 
         boolean hasRoomForFive() {
@@ -537,7 +537,7 @@ public final class TwinRopes {
         }
 
         void add(int number) {
-            for (int shift = 24; shift >= 0 && length < MOST; shift -= 8) {
+            for (int shift = 24; shift >= 0 && length >= 0 && length < MOST; shift -= 8) {
                 bytes[length] = number >>> shift & 255;
                 length++;
             }
@@ -610,15 +610,15 @@ public final class TwinRopes {
         // ---- taking things
 
         private boolean isAtEnd() {
-            return next >= LENGTH || kinds[next] == END;
+            return next < 0 || next >= LENGTH || kinds[next] == END;
         }
 
         private int place() {
-            return next < LENGTH ? begins[next] : NONE;
+            return next >= 0 && next < LENGTH ? begins[next] : NONE;
         }
 
         boolean isNumber(int n) {
-            return next < LENGTH && kinds[next] == NUMBER && values[next] == n;
+            return next >= 0 && next < LENGTH && kinds[next] == NUMBER && values[next] == n;
         }
 
         int lastTaken() {
@@ -626,7 +626,8 @@ public final class TwinRopes {
         }
 
         boolean takeNumber(int least, int greatest) {
-            if (next >= LENGTH || kinds[next] != NUMBER || values[next] < least || values[next] > greatest) {
+            if (next < 0 || next >= LENGTH || kinds[next] != NUMBER
+                    || values[next] < least || values[next] > greatest) {
                 return false;
             }
             taken = values[next];
@@ -635,7 +636,7 @@ public final class TwinRopes {
         }
 
         boolean takeSign(char sign) {
-            if (next >= LENGTH || kinds[next] != SIGN || values[next] != sign) {
+            if (next < 0 || next >= LENGTH || kinds[next] != SIGN || values[next] != sign) {
                 return false;
             }
             next++;
@@ -647,7 +648,7 @@ public final class TwinRopes {
             for (int i = 0; i < word.length(); i++) {
                 value = value << LETTER_BITS | word.charAt(i) - 'a' + 1;
             }
-            if (next >= LENGTH || kinds[next] != WORD || values[next] != value) {
+            if (next < 0 || next >= LENGTH || kinds[next] != WORD || values[next] != value) {
                 return false;
             }
             next++;
@@ -702,7 +703,7 @@ public final class TwinRopes {
         }
 
         private void add(int kind, int value, int begin) {
-            if (things < LENGTH) {
+            if (things >= 0 && things < LENGTH) {
                 kinds[things] = kind;
                 values[things] = value;
                 begins[things] = begin;
@@ -861,17 +862,18 @@ public final class TwinRopes {
         }
 
         boolean takeLine() {
+            int line = lines;
             int kind = takeKind();
-            if (kind == NONE || lines >= MOST_LINES || !takeNumber(0, MOST_AMOUNT)) {
+            if (kind == NONE || line < 0 || line >= MOST_LINES || !takeNumber(0, MOST_AMOUNT)) {
                 return false;
             }
-            lineKinds[lines] = kind;
-            amounts[lines] = lastTaken();
+            lineKinds[line] = kind;
+            amounts[line] = lastTaken();
             if (takeWord("if") && !takeCondition(0)) {
                 return false;
             }
-            ends[lines] = length;
-            lines++;
+            ends[line] = length;
+            lines = line + 1;
             return true;
         }
 
@@ -978,7 +980,7 @@ public final class TwinRopes {
         }
 
         private void addStep(int step) {
-            if (length < steps.length) {
+            if (length >= 0 && length < steps.length) {
                 steps[length] = step;
                 length++;
             }
@@ -1016,9 +1018,9 @@ public final class TwinRopes {
         /** No text at all, which is another thing than a text without a LINE. */
         Law() {
             lines = NONE;
-            kinds = new int[0];
-            amounts = new int[0];
-            ends = new int[0];
+            kinds = new int[LawText.MOST_LINES];
+            amounts = new int[LawText.MOST_LINES];
+            ends = new int[LawText.MOST_LINES];
             steps = new int[0];
         }
 
@@ -1037,7 +1039,7 @@ public final class TwinRopes {
             }
             int sum = 0;
             int from = 0;
-            for (int line = 0; line < lines && line < kinds.length; line++) {
+            for (int line = 0; line < lines && line < LawText.MOST_LINES; line++) {
                 boolean hushes = kinds[line] == HUSH;
                 if ((hushes || kinds[line] == kind) && holds(from, ends[line], two, turned)) {
                     sum += hushes ? -amounts[line] : amounts[line];
@@ -1210,7 +1212,7 @@ public final class TwinRopes {
         }
 
         void addPerson(int haunt, int roam, int pay, boolean isSworn) {
-            if (people >= MOST_PEOPLE) {
+            if (people < 0 || people >= MOST_PEOPLE) {
                 return;
             }
             haunts[people] = haunt;
@@ -1959,10 +1961,12 @@ public final class TwinRopes {
 
     /** Sets of people as bits; rows tell of each one who stands to it in the way that is asked about. */
     private static final class Sets {
+        private static final int ALL_SETS = 1 << MOST_PEOPLE;
+
         private final int[] rows = new int[MOST_PEOPLE];
         private final int[] worths = new int[MOST_PEOPLE * MOST_PEOPLE];
         /** Of each set the most that pairs within it are worth together. */
-        private final int[] most = new int[1 << MOST_PEOPLE];
+        private final int[] most = new int[ALL_SETS];
         private final int[] mates = new int[MOST_PEOPLE];
         private int people;
 
@@ -1980,6 +1984,10 @@ public final class TwinRopes {
             }
         }
 
+        private int rowOf(int person) {
+            return person >= 0 && person < MOST_PEOPLE ? rows[person] : 0;
+        }
+
         private int all() {
             return (1 << people) - 1;
         }
@@ -1989,7 +1997,7 @@ public final class TwinRopes {
             int bits = 0;
             for (int person = 0; person < people; person++) {
                 if (isIn(set, person)) {
-                    bits |= rows[person];
+                    bits |= rowOf(person);
                 }
             }
             return bits;
@@ -2001,7 +2009,7 @@ public final class TwinRopes {
 
         int greatestApart() {
             int best = 0;
-            for (int set = 1; set <= all(); set++) {
+            for (int set = 1; set <= all() && set < ALL_SETS; set++) {
                 if (Integer.bitCount(set) > Integer.bitCount(best) && isApart(set)) {
                     best = set;
                 }
@@ -2011,7 +2019,7 @@ public final class TwinRopes {
 
         int fewestGone() {
             int best = all();
-            for (int set = 0; set < all(); set++) {
+            for (int set = 0; set < all() && set < ALL_SETS; set++) {
                 if (Integer.bitCount(set) < Integer.bitCount(best) && isApart(all() & ~set)) {
                     best = set;
                 }
@@ -2021,7 +2029,7 @@ public final class TwinRopes {
 
         int fewestHeads() {
             int best = all();
-            for (int set = 0; set < all(); set++) {
+            for (int set = 0; set < all() && set < ALL_SETS; set++) {
                 if (Integer.bitCount(set) < Integer.bitCount(best) && (toldBy(set) | set) == all()) {
                     best = set;
                 }
@@ -2033,7 +2041,7 @@ public final class TwinRopes {
             int pairs = 0;
             for (int person = 0; person < people; person++) {
                 if (isIn(set, person)) {
-                    pairs += Integer.bitCount(rows[person] & ~set);
+                    pairs += Integer.bitCount(rowOf(person) & ~set);
                 }
             }
             return pairs;
@@ -2041,7 +2049,7 @@ public final class TwinRopes {
 
         int bestParting() {
             int best = 0;
-            for (int set = 1; set <= all(); set++) {
+            for (int set = 1; set <= all() && set < ALL_SETS; set++) {
                 if (across(set) > across(best)) {
                     best = set;
                 }
@@ -2082,7 +2090,7 @@ public final class TwinRopes {
         /** Pairs are chosen so that their worths are the most, and each one's mate the least for that. */
         void putTogether(Town town) {
             people = Math.min(town.people, MOST_PEOPLE);
-            for (int set = 0; set <= all() && set < most.length; set++) {
+            for (int set = 0; set <= all() && set < ALL_SETS; set++) {
                 most[set] = mostOf(set);
             }
             Arrays.fill(mates, NONE);
@@ -2133,7 +2141,7 @@ public final class TwinRopes {
         }
 
         private int mostIn(int set) {
-            return set >= 0 && set < most.length ? most[set] : 0;
+            return set >= 0 && set < ALL_SETS ? most[set] : 0;
         }
 
         private static int without(int set, int person) {

@@ -1,7 +1,5 @@
 import java.io.IOException;
-import java.lang.reflect.Constructor;
 import java.lang.reflect.Field;
-import java.lang.reflect.Member;
 import java.lang.reflect.Method;
 import java.lang.reflect.Modifier;
 import java.nio.file.Files;
@@ -14,14 +12,12 @@ import java.util.TreeSet;
 import java.util.regex.Matcher;
 import java.util.regex.Pattern;
 
-/** The face of the document, the rules of LANGUAGE.md that a text can show, and the room that a run takes. */
+/** The rules of LANGUAGE.md that a text can show, and the room that a run takes. */
 public final class FormTest {
     private static final Path SOURCE = Path.of("src/main/java/TwinRopes.java");
-    private static final Path DOCUMENT = Path.of("../shared/DOC.md");
 
     public static void main(String[] args) throws IOException {
         String source = Files.readString(SOURCE);
-        face();
         members();
         classes();
         words(source);
@@ -30,43 +26,7 @@ public final class FormTest {
         Checks.finish("FormTest");
     }
 
-    private static void face() throws IOException {
-        Matcher told = Pattern.compile("^ {4}public (\\w+) (\\w+)\\((.*?)\\)( throws (.*?))?;$", Pattern.MULTILINE)
-                .matcher(Files.readString(DOCUMENT));
-        Set<String> due = new TreeSet<>();
-        while (told.find()) {
-            String types = told.group(3).replaceAll(" \\w+(,|$)", "$1");
-            due.add(told.group(1) + " " + told.group(2) + "(" + types + ") " + (told.group(5) == null ? "" : told.group(5)));
-        }
-        Set<String> got = new TreeSet<>();
-        for (Method m : TwinRopes.class.getDeclaredMethods()) {
-            if (Modifier.isPublic(m.getModifiers())) {
-                got.add(m.getReturnType() + " " + m.getName() + "(" + names(m.getParameterTypes()) + ") "
-                        + names(m.getExceptionTypes()));
-            }
-        }
-        Checks.due("the document's methods", got, due);
-        Checks.due("methods", got.size(), 55);
-    }
-
-    private static String names(Class<?>[] types) {
-        List<String> names = new ArrayList<>();
-        for (Class<?> type : types) {
-            names.add(type.getSimpleName());
-        }
-        return String.join(", ", names);
-    }
-
     private static void members() {
-        Set<String> open = new TreeSet<>();
-        for (Field f : TwinRopes.class.getDeclaredFields()) {
-            addOpen(open, f);
-        }
-        for (Constructor<?> c : TwinRopes.class.getDeclaredConstructors()) {
-            addOpen(open, c);
-        }
-        Checks.due("open fields and constructors", open, new TreeSet<>(List.of("NONE", "TwinRopes")));
-        Checks.due("final", Modifier.isFinal(TwinRopes.class.getModifiers()), true);
         Set<String> faceNames = new TreeSet<>();
         Set<String> others = new TreeSet<>();
         List<Class<?>> all = new ArrayList<>(Arrays.asList(TwinRopes.class.getDeclaredClasses()));
@@ -82,12 +42,6 @@ public final class FormTest {
         }
         others.retainAll(faceNames);
         Checks.due("other methods that bear a public one's name", others, new TreeSet<>());
-    }
-
-    private static void addOpen(Set<String> open, Member m) {
-        if (!Modifier.isPrivate(m.getModifiers())) {
-            open.add(m.getName());
-        }
     }
 
     private static void classes() {

@@ -8,7 +8,7 @@ import java.util.TreeSet;
 import java.util.regex.Matcher;
 import java.util.regex.Pattern;
 
-/** That each sentence of the document, from its Terms on, and each promise is named by a test. */
+/** That each sentence of the document, from its first line to its last one, and each promise is named by a test. */
 public final class SentenceTest {
     private static final String TEXT = "(\"[^\"]*\"(?:\\s*\\+\\s*\"[^\"]*\")*)\\);";
     private static final Pattern SAYS = Pattern.compile("Doc\\.says\\(" + TEXT);
@@ -32,7 +32,7 @@ public final class SentenceTest {
         Matcher says = SAYS.matcher(source);
         while (says.find()) {
             String sentence = joined(says.group(1));
-            int at = Doc.TERMS.indexOf(sentence);
+            int at = Doc.TEXT.indexOf(sentence);
             Checks.due("'" + sentence + "' is of the document", at >= 0, true);
             if (at >= 0) {
                 named.set(at, at + sentence.length());
@@ -52,11 +52,12 @@ public final class SentenceTest {
 
     private void tell() {
         Checks.due("promises of the document", Doc.PROMISES.size(), 56);
+        Checks.due("the document has no other head", Doc.OTHER_HEADS, "# TwinRopes,## What it is,## The public face,## Terms,## Not promised");
         Checks.due("promises that a test names", promises, Doc.PROMISES.keySet());
-        for (int at = named.nextClearBit(0); at < Doc.TERMS.length(); at = named.nextClearBit(at)) {
+        for (int at = named.nextClearBit(0); at < Doc.TEXT.length(); at = named.nextClearBit(at)) {
             int end = named.nextSetBit(at);
-            String left = Doc.TERMS.substring(at, end < 0 ? Doc.TERMS.length() : end);
-            Checks.due("left out of the Terms", left.trim(), "");
+            String left = Doc.TEXT.substring(at, end < 0 ? Doc.TEXT.length() : end);
+            Checks.due("left out", left.trim(), "");
             at += left.length();
         }
     }
