@@ -1852,7 +1852,7 @@ public final class TwinRopes {
                     continue;
                 }
                 int rings = ringingHours(lesser(pair), greater(pair), law);
-                if ((rings & heard) == heard && (rings & unheard) == 0 && fits < CODES) {
+                if ((rings & heard) == heard && (rings & unheard) == 0 && fits >= 0 && fits < CODES) {
                     fitRings[fits] = rings;
                     fitPeople[fits] = 1 << lesser(pair) | 1 << greater(pair);
                     fits++;
